@@ -291,6 +291,13 @@ public final class PromiseTest {
         due("undo", x.undo(3), 1);
         walker(x, 0, 0, NONE, 0, 0, 0);
         due("seed", x.seed(0), 794471793);
+        // On 2 he GOES not, though he did.
+        x.go(0, 2);
+        x.go(1, 2);
+        x.seed(1293799192);
+        x.drift(1);
+        walker(x, 0, 0, NONE, 0, 1, 0);
+        walker(x, 1, 2, NONE, 0, 1, 10);
     }
 
     private static void seeds() {
@@ -361,6 +368,11 @@ public final class PromiseTest {
         due("at the night's height", x.takes(0, 1, 1, 60), 61);
         due("yards at 60", x.howLong(60), 4 * 300);
         due("yards at 119", x.howLong(119), 4 * 64);
+        // A leg of more than 300 MINUTES is fine, if both have 600 at most.
+        due("beat of 340 and 260", Check.street("s60 35 1;h10,60,40;").beat(1), 600);
+        due("beat of 284 and 316", Check.street("s30 18 1;h60,60,40,40,20;").beat(1), 600);
+        due("beat of 338 and 263", Check.street("s60 34 1;h20,40,40;").beat(1), NONE);
+        due("beat of 299 and 302", Check.street("s30 39 1;h60,60,40,20,60;").beat(1), NONE);
     }
 
     private static void takesAndSetOut() {
@@ -463,6 +475,8 @@ public final class PromiseTest {
         due("what -1", x.doctor(1, -1), OUTSIDE);
         due("beat pace 0", x.beat(0), OUTSIDE);
         due("beat pace 41", x.beat(41), OUTSIDE);
+        x = Check.street("s1 0 1;h7;");
+        due("of two the least", x.doctor(7, 0), 0);
         x = Check.street("s1 0 1;h60,60,60,60,60,60,60,60;");
         x.rope(7, true);
         due("doctor", x.doctor(1, 0), 4);
@@ -553,6 +567,7 @@ public final class PromiseTest {
         due("0, 1, 7 by gap 1", x.lookAt(), 1);
         x.met(1, 1);
         due("1, 7: none", x.lookAt(), NONE);
+        due("growths", x.growths() & 1024, 1024);
         due("two fit", x.fits(0), 2);
         x.tear();
         x.met(2, 9);
@@ -562,6 +577,12 @@ public final class PromiseTest {
         x.met(0, 1);
         // 2 3 4 5 6: gap 1 tells 4 and 1, gap 2 tells 3 (3 4 5) and 2 (2 6).
         due("gap 2", x.lookAt(), 2);
+        // Only the minute 0 has no NIGHT HOUSE more, if G is 10 or more.
+        x = Check.street("s1 40 1;h1;");
+        x.met(0, 0);
+        due("all growths, at minute 0", x.growths(), (1 << 30) - 1);
+        due("one fits", x.fits(0), 1);
+        due("one is not parted", x.lookAt(), NONE);
     }
 
     private static void bookAndTear() {
@@ -577,6 +598,10 @@ public final class PromiseTest {
         due("in a gap", x.judge(), 1);
         x.undo(1);
         due("back again", x.judge(), 2);
+        x.go(0, 2);
+        x.minute(1);
+        due("the first of three", x.judge(), 0);
+        x.undo(2);
         due("walker 3", x.write(3, 0), UNKNOWN);
         due("walker -1", x.write(-1, 0), UNKNOWN);
         due("house 4", x.write(0, 4), UNKNOWN);
