@@ -3,15 +3,21 @@ final class Check {
     static final int NONE = -1, UNKNOWN = -1000000001, OUTSIDE = -1000000002, NOT = -1000000003, FULL = -1000000004;
     static final int[] FAR = {Integer.MIN_VALUE, -1000000001, -2, Integer.MAX_VALUE};
 
+    private String sentence = "";
     private int asked;
     private int wrong;
+
+    /** The document's words that the next answers are held against: told with each that is wrong. */
+    void sentence(String words) {
+        sentence = words;
+    }
 
     void due(String call, long got, long want) {
         asked++;
         if (got != want) {
             wrong++;
             if (wrong <= 50) {
-                System.out.println(call + " answered " + got + ", due is " + want);
+                System.out.println((sentence.isEmpty() ? "" : "[" + sentence + "] ") + call + " answered " + got + ", due is " + want);
             }
         }
     }
@@ -31,10 +37,14 @@ final class Check {
         }
     }
 
-    static int tell(NightStreet x, String text) {
+    static void feedAll(NightStreet x, String text) {
         for (int i = 0; i < text.length(); i++) {
             x.feed(text.charAt(i));
         }
+    }
+
+    static int tell(NightStreet x, String text) {
+        feedAll(x, text);
         return x.street();
     }
 
@@ -70,5 +80,17 @@ final class Check {
         x.seed(seed);
         return all.append('|').append(seed).append('|').append(x.judge()).append('|').append(x.growths())
                 .append('|').append(x.fits(0)).append(' ').append(x.fits(1)).append(' ').append(x.fits(2)).toString();
+    }
+
+    /** All that is hidden too: what could be undone, IMAGES, THE TEXT. It uses the object up. */
+    static String seenToTheEnd(NightStreet x) {
+        StringBuilder all = new StringBuilder(seen(x));
+        for (int i = x.told(10); i > 0; i--) {
+            all.append("\nundo ").append(x.undo(1)).append(' ').append(seen(x));
+        }
+        for (int i = 0; i <= 1; i++) {
+            all.append("\nimage ").append(x.goBack(i)).append(' ').append(seen(x));
+        }
+        return all.append("\ntext ").append(x.street()).append(' ').append(seen(x)).toString();
     }
 }
